@@ -1,0 +1,116 @@
+import java.lang.reflect.InvocationTargetException;
+import java.lang.reflect.Method;
+import java.util.ArrayList;
+import java.util.List;
+
+/**
+ * Runs of calls on new signs, told as the document tells its example: "risk(5) = 0; risk(61) =
+ * throws IllegalArgumentException". Behind each run its calls that threw are left out on a twin,
+ * which must then answer all that can be asked as the sign does: such a call changes nothing.
+ */
+final class Runs {
+    private int right;
+    private int wrong;
+
+    /** One call of a run and what it answered. */
+    private record Answer(String call, String got) {
+        boolean isThrown() {
+            return got.startsWith("throws ");
+        }
+    }
+
+    void run(String name, String... texts) {
+        Noblesign sign = new Noblesign();
+        List<Answer> answers = new ArrayList<>();
+        for (String step : steps(String.join(";", texts))) {
+            int equal = step.lastIndexOf(" = ");
+            String call = equal < 0 ? step : step.substring(0, equal);
+            String got = answer(sign, call);
+            answers.add(new Answer(call, got));
+            if (equal >= 0) {
+                due(name + ": " + call, got, step.substring(equal + 3).trim());
+            } else if (got.startsWith("throws ")) {
+                due(name + ": " + call, got, "no exception");
+            }
+        }
+        checkTwin(name, sign, answers);
+    }
+
+    private void checkTwin(String name, Noblesign sign, List<Answer> answers) {
+        Noblesign twin = new Noblesign();
+        for (Answer answer : answers) {
+            if (!answer.isThrown()) {
+                due(name + ": again " + answer.call(), answer(twin, answer.call()), answer.got());
+            }
+        }
+        for (String call : Questions.ALL) {
+            due(name + ": behind the run " + call, answer(sign, call), answer(twin, call));
+        }
+        due(name + ": behind the run isSound()", answer(sign, "isSound()"), "true");
+    }
+
+    void due(String what, String got, String want) {
+        if (got.equals(want)) {
+            right++;
+        } else {
+            wrong++;
+            System.out.println(what + " answered " + got + ", due is " + want);
+        }
+    }
+
+    void end() {
+        System.out.println(right + " answers are as due, " + wrong + " are not");
+        if (wrong > 0 || right == 0) {
+            System.exit(1);
+        }
+    }
+
+    private static List<String> steps(String text) {
+        List<String> steps = new ArrayList<>();
+        for (String step : text.split(";")) {
+            String one = step.replaceAll("\\s+", " ").trim();
+            if (!one.isEmpty()) {
+                steps.add(one);
+            }
+        }
+        return steps;
+    }
+
+    /** What a call told as a text answers, as a text. */
+    static String answer(Noblesign sign, String call) {
+        int open = call.indexOf('(');
+        String[] words = call.substring(open + 1, call.lastIndexOf(')')).trim().split("\\s*,\\s*");
+        Method method = methodOf(call.substring(0, open));
+        Class<?>[] types = method.getParameterTypes();
+        Object[] values = new Object[types.length];
+        for (int i = 0; i < types.length; i++) {
+            values[i] = valueOf(types[i], words[i]);
+        }
+        try {
+            return String.valueOf(method.invoke(sign, values));
+        } catch (InvocationTargetException e) {
+            return "throws " + e.getCause().getClass().getSimpleName();
+        } catch (IllegalAccessException e) {
+            throw new IllegalStateException(call, e);
+        }
+    }
+
+    private static Method methodOf(String name) {
+        for (Method method : Noblesign.class.getDeclaredMethods()) {
+            if (method.getName().equals(name)) {
+                return method;
+            }
+        }
+        throw new IllegalStateException("there is no method " + name);
+    }
+
+    private static Object valueOf(Class<?> type, String word) {
+        if (type == boolean.class) {
+            return Boolean.valueOf(word);
+        }
+        if (type == char.class) {
+            return word.charAt(1);
+        }
+        return Integer.valueOf(word);
+    }
+}
