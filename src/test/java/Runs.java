@@ -77,10 +77,10 @@ final class Runs {
     }
 
     /** What a call told as a text answers, as a text. */
-    static String answer(Noblesign sign, String call) {
+    static String answer(Object sign, String call) {
         int open = call.indexOf('(');
         String[] words = call.substring(open + 1, call.lastIndexOf(')')).trim().split("\\s*,\\s*");
-        Method method = methodOf(call.substring(0, open));
+        Method method = methodOf(sign.getClass(), call.substring(0, open));
         Class<?>[] types = method.getParameterTypes();
         Object[] values = new Object[types.length];
         for (int i = 0; i < types.length; i++) {
@@ -95,8 +95,8 @@ final class Runs {
         }
     }
 
-    private static Method methodOf(String name) {
-        for (Method method : Noblesign.class.getDeclaredMethods()) {
+    private static Method methodOf(Class<?> type, String name) {
+        for (Method method : type.getDeclaredMethods()) {
             if (method.getName().equals(name)) {
                 return method;
             }
