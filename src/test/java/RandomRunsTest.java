@@ -2,9 +2,8 @@ import java.util.List;
 
 /** Runs of calls that follow from a number, on Noblesign and on SlowSign, which must answer the same. */
 public final class RandomRunsTest {
-    private static final int RUNS = 2000;
-    // With the questions behind them a sign is asked at most 512 times.
-    private static final int CALLS = 512 - Questions.ALL.size();
+    private static final int RUNS = 3000;
+    private static final int MOST_CALLS = 512;
 
     private static final int[] EXTREMES = {Integer.MIN_VALUE, Integer.MAX_VALUE, -1, 32, 64, 100000, -100};
 
@@ -23,12 +22,15 @@ public final class RandomRunsTest {
         state = run * 1000003L;
         Noblesign sign = new Noblesign();
         SlowSign slow = new SlowSign();
-        for (int i = 0; i < CALLS; i++) {
-            String call = below(100) < 70 ? useful(i) : any();
+        // A sign is asked at most 512 times, so the long runs have no questions behind them.
+        boolean isLong = run % 2 == 0;
+        int calls = isLong ? MOST_CALLS : MOST_CALLS - Questions.ALL.size();
+        for (int i = 0; i < calls; i++) {
+            String call = below(100) < 70 ? useful(slow, i) : any();
             compare(run, sign, slow, call);
         }
-        for (String call : Questions.ALL) {
-            compare(run, sign, slow, call);
+        for (int i = 0; i < Questions.ALL.size() && !isLong; i++) {
+            compare(run, sign, slow, Questions.ALL.get(i));
         }
     }
 
@@ -65,38 +67,81 @@ public final class RandomRunsTest {
     }
 
     /** A call that brings the sign further, with arguments that mostly are allowed. */
-    private String useful(int i) {
-        int tube = below(1 + Math.min(9, i / 20));
-        int circuit = below(3);
-        switch (i < 40 ? below(6) : below(26)) {
-            case 0:
-                return "point(" + from(0, 12) * 8 + ", " + from(0, 12) * 8 + ")";
-            case 1:
-                return "point(" + from(0, 99) + ", " + from(0, 99) + ")";
-            case 2, 3, 4:
-                return "stroke(" + below(12) + ", " + below(12) + ")";
-            case 5:
-                return below(3) == 0 ? "erase(" + below(12) + ", " + below(12) + ")" : "planned()";
-            case 6, 7:
-                return "make(" + below(4) + ", " + from(8, 25) + ")";
-            case 8, 9, 10:
+    private String useful(SlowSign slow, int i) {
+        int kind = i < 30 ? below(4) : below(20);
+        if (kind < 4) {
+            return drawn(slow, kind, i);
+        }
+        if (kind < 6 && slow.planned() > 0) {
+            return "make(" + below(slow.planned()) + ", " + from(8, 25) + ")";
+        }
+        if (kind < 14 && slow.tubeCount() > 0) {
+            return furthered(slow, below(slow.tubeCount()));
+        }
+        if (kind < 15) {
+            return "hours(" + from(1, 999) + ")";
+        }
+        int circuit = below(1 + Math.min(3, slow.circuitCount()));
+        if (kind < 17) {
+            return "shows(" + circuit + ", " + from(0, 3599) + ")";
+        }
+        return kind < 18 ? "breach()" : "program(" + circuit + ", " + below(24) + ", " + (below(4) > 0) + ")";
+    }
+
+    private String drawn(SlowSign slow, int kind, int i) {
+        int points = slow.pointCount();
+        if (points < 2 || points < 12 && below(points) == 0) {
+            return "point(" + from(0, 12) * 8 + ", " + from(0, 12) * 8 + ")";
+        }
+        if (kind == 0 && i > 30) {
+            return "erase(" + below(points) + ", " + below(points) + ")";
+        }
+        return "stroke(" + below(points) + ", " + below(points) + ")";
+    }
+
+    /** The call that a tube waits for. */
+    private String furthered(SlowSign slow, int tube) {
+        switch (slow.state(tube)) {
+            case 's':
                 return "bend(" + tube + ")";
-            case 11, 12:
-                return "put(" + tube + ", " + (below(5) == 0) + ", " + from(0, 4) + ")";
-            case 13, 14:
-                return "bombard(" + tube + ", " + from(200, 400) + ")";
-            case 15, 16:
-                return "pump(" + tube + ", " + from(30, 60) + ")";
-            case 17, 18:
-                return "fill(" + tube + ", '" + pick(List.of("n", "a")) + "', " + from(5, 20) + ")";
-            case 19:
-                return below(3) == 0 ? "mend(" + tube + ")" : "circuit(" + from(40, 700) + ")";
-            case 20, 21, 22:
-                return "join(" + circuit + ", " + tube + ")";
-            case 23, 24:
-                return "program(" + circuit + ", " + below(24) + ", " + (below(4) > 0) + ")";
+            case 'b':
+                return "put(" + tube + ", " + (below(8) == 0) + ", " + from(0, 4) + ")";
+            case 'p':
+                return furtheredOnPlant(slow, tube);
+            case 'f':
+                return circuitOrJoin(slow, tube);
             default:
-                return "hours(" + from(1, 999) + ")";
+                return "part(" + below(4) + ", " + tube + ")";
+        }
+    }
+
+    private String furtheredOnPlant(SlowSign slow, int tube) {
+        if (below(6) == 0) {
+            return "mend(" + tube + ")";
+        }
+        if (slow.gas(tube, true) > 60 || below(8) == 0) {
+            return "bombard(" + tube + ", " + from(220, 330) + ")";
+        }
+        if (slow.gas(tube, false) > 10) {
+            return "pump(" + tube + ", " + from(20, 60) + ")";
+        }
+        return "fill(" + tube + ", '" + pick(List.of("n", "a")) + "', " + from(5, 20) + ")";
+    }
+
+    /** The rating is often one with which the tube alone can be lit. */
+    private String circuitOrJoin(SlowSign slow, int tube) {
+        int circuits = slow.circuitCount();
+        int load = slow.length(tube) + 10;
+        if (circuits == 0 || circuits < 4 && below(6) == 0) {
+            return "circuit(" + Math.max(10, from(load - 2, load * 5 / 4 + 2) * (below(4) == 0 ? 2 : 1)) + ")";
+        }
+        switch (below(5)) {
+            case 0:
+                return "gives(" + tube + ")";
+            case 1:
+                return "part(" + below(circuits) + ", " + tube + ")";
+            default:
+                return "join(" + below(circuits) + ", " + tube + ")";
         }
     }
 
@@ -139,7 +184,7 @@ public final class RandomRunsTest {
             case 0:
                 return "make(" + near(0, 4) + ", " + near(8, 25) + ")";
             case 1:
-                return "risk(" + near(0, 60) + ")";
+                return "risk(" + (below(3) == 0 ? near(0, 60) : from(0, 8)) + ")";
             case 2:
                 return "seed(" + (below(8) == 0 ? near(1, 9) : from(1, 2147483646)) + ")";
             case 3:

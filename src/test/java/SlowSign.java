@@ -224,6 +224,18 @@ final class SlowSign {
         return tubes.get(tube);
     }
 
+    int pointCount() {
+        return places.size();
+    }
+
+    int tubeCount() {
+        return tubes.size();
+    }
+
+    int circuitCount() {
+        return circuits.size();
+    }
+
     int length(int tube) {
         return glass(tube).size;
     }
