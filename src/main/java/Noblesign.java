@@ -49,8 +49,8 @@ public final class Noblesign {
     private int bills;
 
     public Noblesign() {
-        lettering = new Lettering();
-        plan = new Plan(lettering);
+        plan = new Plan();
+        lettering = plan.lettering;
         tubes = new ArrayList<>();
         circuits = new ArrayList<>();
         z = 1;
@@ -123,7 +123,6 @@ public final class Noblesign {
     }
 
     public int through(int tube, int index) throws NoSuchElementException {
-        requirePlanned(tube);
         int found = plan.pointAt(tube, index);
         if (found < 0) {
             throw new NoSuchElementException("the tube of the plan has no such point");
@@ -383,11 +382,12 @@ public final class Noblesign {
     }
 
     public int breach() throws NoSuchElementException {
-        int hour = firstBreachedHour();
-        if (hour >= HOURS_OF_DAY) {
-            throw new NoSuchElementException("the street is not breached");
+        for (int hour = 0; hour < HOURS_OF_DAY; hour++) {
+            if (isBreachedAt(hour)) {
+                return hour;
+            }
         }
-        return hour;
+        throw new NoSuchElementException("the street is not breached");
     }
 
     public int hail(int width) throws IllegalArgumentException {
@@ -514,15 +514,6 @@ public final class Noblesign {
 
     private int hourOfDay() {
         return hoursGone % HOURS_OF_DAY;
-    }
-
-    /** Answers 24 if there is none. */
-    private int firstBreachedHour() {
-        int hour = 0;
-        while (hour < HOURS_OF_DAY && !isBreachedAt(hour)) {
-            hour++;
-        }
-        return hour;
     }
 
     private boolean isBreachedAt(int hour) {
@@ -743,8 +734,8 @@ public final class Noblesign {
         private int pathCount;
         private int tubeCount;
 
-        Plan(Lettering lettering) {
-            this.lettering = lettering;
+        Plan() {
+            lettering = new Lettering();
             path = new int[MOST_PATH];
             starts = new int[Lettering.MOST_STROKES + 1];
             left = new int[Lettering.MOST_POINTS];

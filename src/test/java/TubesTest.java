@@ -106,6 +106,12 @@ public final class TubesTest {
                 bend(0) = 3; bend(0) = 2; bend(0) = 1; bend(0) = 0; bill() = 105; seed(1) = 1914720637;
                 bend(0) = throws UnsupportedOperationException
                 """);
+        runs.run("promise 17, turns alone are bent, in their order", """
+                point(0, 0); point(10, 0); point(30, 0); point(20, 0); point(20, 10); point(20, 20); point(0, 20);
+                stroke(0, 1); stroke(1, 2); stroke(2, 3); stroke(3, 4); stroke(4, 5); stroke(5, 6);
+                corners(0, false) = 3; corners(0, true) = 1; make(0, 10) = 0; bill() = 8; bend(0) = 2; bill() = 23;
+                bend(0) = 1; bill() = 33; bend(0) = 0; bill() = 43
+                """);
         runs.run("no turn, so it is bent", """
                 point(0, 0); point(10, 0); point(20, 0); stroke(0, 1); stroke(1, 2); make(0, 8) = 0; state(0) = b;
                 bend(0) = throws UnsupportedOperationException
