@@ -3,7 +3,7 @@ final class Lit {
     /** Tubes of 50, 20, 9 and 1, without turns. */
     static final String PLAN = """
             point(0, 0); point(50, 0); point(0, 10); point(20, 10); point(0, 20); point(9, 20);
-            point(0, 30); point(1, 30); stroke(0, 1); stroke(2, 3); stroke(4, 5); stroke(6, 7)
+            point(0, 30); point(1, 30); stroke(0, 1); stroke(2, 3); stroke(4, 5); stroke(6, 7);
             """;
 
     private Lit() {

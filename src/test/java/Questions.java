@@ -1,7 +1,10 @@
 import java.util.ArrayList;
 import java.util.List;
 
-/** Calls that together show the state of a sign; those that set something tell what was set before. */
+/**
+ * Calls that together show the state of a sign; those that set something tell what was set before, and
+ * behind those come such as bring to light what none tells: turns, leaks, powders, widths, numbers.
+ */
 final class Questions {
     static final List<String> ALL = all();
 
@@ -43,6 +46,23 @@ final class Questions {
             }
         }
         calls.addAll(List.of("risk(0)", "seed(1)", "air(0)", "allow(0)", "dark(0, 0)", "hours(1)"));
+        for (int tube = 0; tube < 10; tube++) {
+            addFurthering(tube, calls);
+        }
+        for (int width = 25; width >= 8; width--) {
+            calls.add("hail(" + width + ")");
+        }
+        calls.addAll(List.of("make(0, 8)", "circuit(10)", "point(77, 78)", "bill()", "checksum()"));
         return calls;
+    }
+
+    private static void addFurthering(int tube, List<String> calls) {
+        calls.add("bend(" + tube + ")");
+        calls.add("bend(" + tube + ")");
+        calls.add("bill()");
+        calls.add("bombard(" + tube + ", 300)");
+        calls.add("bombard(" + tube + ", 300)");
+        calls.add("pump(" + tube + ", 60)");
+        calls.add("fill(" + tube + ", 'a', 12)");
     }
 }

@@ -3,7 +3,6 @@ import java.util.List;
 /** Runs of calls that follow from a number, on Noblesign and on SlowSign, which must answer the same. */
 public final class RandomRunsTest {
     private static final int RUNS = 3000;
-    private static final int MOST_CALLS = 512;
 
     private static final int[] EXTREMES = {Integer.MIN_VALUE, Integer.MAX_VALUE, -1, 32, 64, 100000, -100};
 
@@ -24,7 +23,7 @@ public final class RandomRunsTest {
         SlowSign slow = new SlowSign();
         // A sign is asked at most 512 times, so the long runs have no questions behind them.
         boolean isLong = run % 2 == 0;
-        int calls = isLong ? MOST_CALLS : MOST_CALLS - Questions.ALL.size();
+        int calls = isLong ? Runs.MOST_CALLS : Runs.MOST_CALLS - Questions.ALL.size();
         for (int i = 0; i < calls; i++) {
             String call = below(100) < 70 ? useful(slow, i) : any();
             compare(run, sign, slow, call);

@@ -1,7 +1,10 @@
 import java.lang.reflect.InvocationTargetException;
 import java.lang.reflect.Method;
 import java.util.ArrayList;
+import java.util.HashMap;
 import java.util.List;
+import java.util.Map;
+import java.util.regex.Pattern;
 
 /**
  * Runs of calls on new signs, told as the document tells its example: "risk(5) = 0; risk(61) =
@@ -9,6 +12,12 @@ import java.util.List;
  * which must then answer all that can be asked as the sign does: such a call changes nothing.
  */
 final class Runs {
+    /** Nothing is promised of a sign behind so many calls. */
+    static final int MOST_CALLS = 512;
+
+    private static final Map<Class<?>, Map<String, Method>> METHODS = new HashMap<>();
+    private static final Pattern COMMA = Pattern.compile("\\s*,\\s*");
+
     private int right;
     private int wrong;
 
@@ -37,6 +46,8 @@ final class Runs {
     }
 
     private void checkTwin(String name, Noblesign sign, List<Answer> answers) {
+        boolean isShort = answers.size() + Questions.ALL.size() < MOST_CALLS;
+        due(name + ": it leaves the questions their calls", String.valueOf(isShort), "true");
         Noblesign twin = new Noblesign();
         for (Answer answer : answers) {
             if (!answer.isThrown()) {
@@ -65,7 +76,8 @@ final class Runs {
         }
     }
 
-    private static List<String> steps(String text) {
+    /** The calls that a text tells, each with its answer if it is told. */
+    static List<String> steps(String text) {
         List<String> steps = new ArrayList<>();
         for (String step : text.split(";")) {
             String one = step.replaceAll("\\s+", " ").trim();
@@ -79,9 +91,10 @@ final class Runs {
     /** What a call told as a text answers, as a text. */
     static String answer(Object sign, String call) {
         int open = call.indexOf('(');
-        String[] words = call.substring(open + 1, call.lastIndexOf(')')).trim().split("\\s*,\\s*");
+        String inside = call.substring(open + 1, call.lastIndexOf(')')).trim();
         Method method = methodOf(sign.getClass(), call.substring(0, open));
         Class<?>[] types = method.getParameterTypes();
+        String[] words = types.length == 0 ? new String[0] : COMMA.split(inside);
         Object[] values = new Object[types.length];
         for (int i = 0; i < types.length; i++) {
             values[i] = valueOf(types[i], words[i]);
@@ -100,12 +113,19 @@ final class Runs {
     }
 
     private static Method methodOf(Class<?> type, String name) {
-        for (Method method : type.getDeclaredMethods()) {
-            if (method.getName().equals(name)) {
-                return method;
-            }
+        Method method = METHODS.computeIfAbsent(type, Runs::methodsOf).get(name);
+        if (method == null) {
+            throw new IllegalStateException("there is no method " + name);
         }
-        throw new IllegalStateException("there is no method " + name);
+        return method;
+    }
+
+    private static Map<String, Method> methodsOf(Class<?> type) {
+        Map<String, Method> methods = new HashMap<>();
+        for (Method method : type.getDeclaredMethods()) {
+            methods.put(method.getName(), method);
+        }
+        return methods;
     }
 
     private static Object valueOf(Class<?> type, String word) {
